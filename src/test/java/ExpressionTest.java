@@ -1,0 +1,90 @@
+/** Promise 4, eval, with the errors ZERO (5) and EXPRESSION (6). */
+public final class ExpressionTest {
+    public static void main(String[] args) {
+        Checks checks = new Checks();
+        values(checks);
+        goingRound(checks);
+        nesting(checks);
+        errors(checks);
+        checks.finish();
+    }
+
+    private static void is(Checks checks, String expression, String due) {
+        checks.gives("eval(`" + expression + "')", due);
+    }
+
+    private static void values(Checks checks) {
+        is(checks, "007", "7");
+        is(checks, "1+2*3", "7");
+        is(checks, "(1+2)*3", "9");
+        is(checks, "10-4-3", "3");
+        is(checks, "100/10/5*2", "4");
+        is(checks, "7%4*2", "6");
+        is(checks, "7/2", "3");
+        is(checks, "(0-7)/2", "-3");
+        is(checks, "-7%3", "-1");
+        is(checks, "7%-3", "1");
+        is(checks, "2*-3", "-6");
+        is(checks, "2--3", "5");
+        is(checks, "--3", "3");
+        is(checks, "3>2>1", "0");
+        is(checks, "3>2=1", "1");
+        is(checks, "1=3>2", "0");
+        is(checks, "1<2", "1");
+        is(checks, "2<2", "0");
+        is(checks, "2=2", "1");
+        is(checks, "1+1<3", "1");
+        is(checks, "5&2", "1");
+        is(checks, "5&0", "0");
+        is(checks, "0|7", "1");
+        is(checks, "0|0", "0");
+        is(checks, "1|0&0", "0");
+        is(checks, "0&0|1", "1");
+        is(checks, "1<2&3<2", "0");
+        is(checks, "1 2\n+ 3", "15");
+        is(checks, " ( 1 ) ", "1");
+    }
+
+    private static void goingRound(Checks checks) {
+        is(checks, "9223372036854775807+1", "-9223372036854775808");
+        is(checks, "9223372036854775808", "-9223372036854775808");
+        is(checks, "18446744073709551617", "1");
+        is(checks, "-9223372036854775808/-1", "-9223372036854775808");
+        is(checks, "-9223372036854775808%-1", "0");
+        is(checks, "-9223372036854775808-1", "9223372036854775807");
+        is(checks, "4294967296*4294967296", "0");
+    }
+
+    private static void nesting(Checks checks) {
+        is(checks, "((((((1))))))", "1");
+        is(checks, "------1", "1");
+        is(checks, "-(-(-(1)))", "-1");
+        is(checks, "((((((1-2)))))) - -(2)", "1");
+        is(checks, "(1)+(1)+(1)+(1)+(1)+(1)+(1)+(1)", "8");
+        is(checks, "1-1-1-1-1-1-1-1-1", "-7");
+        checks.errs("eval((((((((1))))))))", 6, "");
+        checks.errs("eval(-------1)", 6, "");
+        checks.errs("eval(-(-(-(-1))))", 6, "");
+        checks.errs("eval(((((((-1)))))))", 6, "");
+        checks.errs("eval(" + "(".repeat(100) + "1" + ")".repeat(100) + ")", 6, "");
+    }
+
+    private static void errors(Checks checks) {
+        String[] wrong = {"", " ", "+", "+1", "1+", "1 + * 2", "()", "(1", "1)", "a", "1a", "1==1",
+            "1<=2", "1&&1", "-", "1(2)", "(1)2", "1.", "!1", "*1", "2**3"};
+        for (String expression : wrong) {
+            checks.errs("x`'eval(`" + expression + "')y", 6, "x");
+        }
+        checks.errs("eval", 6, "");
+        checks.errs("eval()", 6, "");
+        String[] byZero = {"1/0", "1%0", "0/0", "1/(1-1)", "0&1/0", "1|1%0", "1/0/0", "5/(1/0)"};
+        for (String expression : byZero) {
+            checks.errs("x`'eval(`" + expression + "')y", 5, "x");
+        }
+        checks.errs("eval(1/0+)", 6, "");
+        checks.errs("eval((1/0)", 4, "");
+        checks.errs("eval(1/0 1/0a)", 6, "");
+        checks.same("count(8) after ZERO", checks.errs("a eval(1/0)bc", 5, "a ").count(8), 2);
+        checks.same("count(6) after ZERO", checks.errs("a eval(1/0)bc", 5, "a ").count(6), 7);
+    }
+}

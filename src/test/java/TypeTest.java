@@ -1,0 +1,44 @@
+/** Promise 2: type appends to the text, which has room for 300 characters. */
+public final class TypeTest {
+    public static void main(String[] args) {
+        Checks checks = new Checks();
+        appendsInOrder(checks);
+        everyCharacterIsTaken(checks);
+        refusesTheCharacterBehind300(checks);
+        leavesTheLatestRun(checks);
+        checks.finish();
+    }
+
+    private static void appendsInOrder(Checks checks) {
+        RescanDesk desk = new RescanDesk();
+        checks.same("type('x')", desk.type('x') ? 1 : 0, 1);
+        checks.same("type('+')", desk.type('+') ? 1 : 0, 1);
+        checks.same("type('y')", desk.type('y') ? 1 : 0, 1);
+        checks.gives(desk, "", "x+y");
+    }
+
+    private static void everyCharacterIsTaken(Checks checks) {
+        checks.gives("\0\1\u007f\u00ff\u0100\uffff", "\0\1\u007f\u00ff\u0100\uffff");
+    }
+
+    private static void refusesTheCharacterBehind300(Checks checks) {
+        RescanDesk desk = new RescanDesk();
+        for (int i = 0; i < 300; i++) {
+            checks.same("type number " + i, desk.type('.') ? 1 : 0, 1);
+        }
+        checks.same("type number 300", desk.type('!') ? 1 : 0, 0);
+        checks.same("type number 300 again", desk.type('!') ? 1 : 0, 0);
+        checks.same("run of 300 characters", desk.run(300), 0);
+        checks.same("row 0", Checks.row(desk, 0), ".".repeat(300));
+        checks.same("type after the run", desk.type('.') ? 1 : 0, 1);
+    }
+
+    private static void leavesTheLatestRun(Checks checks) {
+        RescanDesk desk = new RescanDesk();
+        checks.gives(desk, "abc", "abc");
+        Checks.type(desk, "later");
+        checks.same("row 0 while typing", Checks.row(desk, 0), "abc");
+        checks.same("count(6) while typing", desk.count(6), 1);
+        checks.same("count(8) while typing", desk.count(8), 0);
+    }
+}
