@@ -647,6 +647,7 @@ public final class RescanDesk {
             }
         }
 
+        /** A call that was never open and has no arguments. */
         Call bare(Definition definition) {
             bare.definition.copy(definition);
             return bare;
@@ -712,7 +713,8 @@ public final class RescanDesk {
             if (call.definition.builtIn == null) {
                 makeBody(call);
             } else {
-                error = makeBuiltIn(call, call.definition.builtIn);
+                error = act(call, call.definition.builtIn);
+                makeText(call, call.definition.builtIn);
             }
             if (error != FINE) {
                 return error;
@@ -770,7 +772,8 @@ public final class RescanDesk {
             }
         }
 
-        private int makeBuiltIn(Call call, BuiltIn builtIn) {
+        /** Those built in that change something, or may err. */
+        private int act(Call call, BuiltIn builtIn) {
             switch (builtIn) {
                 case DEFINE:
                     return define(call, false);
@@ -791,15 +794,14 @@ public final class RescanDesk {
                     front.takeLine();
                     return FINE;
                 case EVAL:
-                    return makeExpression(call);
+                    return expression.reckon(call.chars, call.from(1), call.to(1), made);
                 default:
-                    makeOutright(call, builtIn);
                     return FINE;
             }
         }
 
         /** Those built in that do nothing but make a text, and never err. */
-        private void makeOutright(Call call, BuiltIn builtIn) {
+        private void makeText(Call call, BuiltIn builtIn) {
             switch (builtIn) {
                 case IFDEF:
                     makeArgument(call, placeOfFirst(call) == NONE ? 3 : 2);
@@ -863,14 +865,6 @@ public final class RescanDesk {
             return rows.pour((int) number, rows.present) ? FINE : SPACE;
         }
 
-        private int makeExpression(Call call) {
-            int error = expression.reckon(call.chars, call.from(1), call.to(1));
-            if (error == FINE) {
-                made.addNumber(expression.value);
-            }
-            return error;
-        }
-
         /** Which argument an ifelse gives; there may be none of that number. */
         private int chosen(Call call) {
             int first = 1;
@@ -903,7 +897,7 @@ public final class RescanDesk {
                     return place;
                 }
             }
-            return -1;
+            return NONE;
         }
     }
 
@@ -916,17 +910,16 @@ public final class RescanDesk {
         private int at;
         private boolean wrong;
         private boolean byZero;
-        private long value;
 
         Expression() {
             signs = new Text(GATHERED_ROOM);
             at = 0;
             wrong = false;
             byZero = false;
-            value = 0;
         }
 
-        int reckon(char[] chars, int from, int to) {
+        /** Adds the value to the text that is made, unless it answers an error. */
+        int reckon(char[] chars, int from, int to, Text made) {
             signs.empty();
             for (int i = from; i < to; i++) {
                 if (!isBlank(chars[i])) {
@@ -936,11 +929,15 @@ public final class RescanDesk {
             at = 0;
             wrong = false;
             byZero = false;
-            value = level(WEAKEST, 0);
+            long value = level(WEAKEST, 0);
             if (wrong || at < signs.length) {
                 return EXPRESSION;
             }
-            return byZero ? ZERO : FINE;
+            if (byZero) {
+                return ZERO;
+            }
+            made.addNumber(value);
+            return FINE;
         }
 
         /** All signs of one strength from here on; depth: the brackets and - that are around. */

@@ -16,6 +16,8 @@ public final class BodyTest {
         body(checks, "$ $$ $a $", "f", "$ $$ $a $");
         body(checks, "$$1", "f(x)", "$x");
         body(checks, "x$", "f", "x$");
+        checks.gives("define(`f',`ab$1')f(q) define(`f',`ab$')f(q)", "abq ab$");
+        body(checks, "x".repeat(99) + "$", "f(a)", "x".repeat(99) + "$");
         body(checks, "", "f(a)f.", ".");
         checks.gives("define(`f',`<$1>')f(``len'')", "<len>");
         checks.gives("define(`f',`$1')f(``len'(x)')", "len(x)");

@@ -36,7 +36,8 @@ public final class BuiltInTest {
         checks.gives(desk, "pushdef(`len',`x')len(ab) popdef(`len')len(ab)", "x 2");
         checks.gives(desk, "undefine(`len')len(ab)popdef(`len')", "len(ab)");
         checks.same("count(5) without len", desk.count(5), 15);
-        checks.gives(desk, "popdef(`define')define(`a',`b')", "define(a,b)");
+        checks.gives(desk, "undefine(`define')define(`a',`b')", "define(a,b)");
+        checks.same("count(5) without define", desk.count(5), 14);
     }
 
     private static void conditions(Checks checks) {

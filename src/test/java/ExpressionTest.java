@@ -1,3 +1,5 @@
+import java.math.BigInteger;
+
 /** Promise 4, eval, with the errors ZERO (5) and EXPRESSION (6). */
 public final class ExpressionTest {
     public static void main(String[] args) {
@@ -6,6 +8,8 @@ public final class ExpressionTest {
         goingRound(checks);
         nesting(checks);
         errors(checks);
+        oneBehindTheOther(checks);
+        theLongestOnes(checks);
         checks.finish();
     }
 
@@ -69,9 +73,27 @@ public final class ExpressionTest {
         checks.errs("eval(" + "(".repeat(100) + "1" + ")".repeat(100) + ")", 6, "");
     }
 
+    /** What an earlier, longer expression left must not be read. */
+    private static void oneBehindTheOther(Checks checks) {
+        checks.gives("eval(12+34*5) eval(1) eval(1+3) eval(-(2)) eval(6)", "182 1 4 -2 6");
+        RescanDesk desk = new RescanDesk();
+        checks.errs(desk, "eval((1)+(2)) eval((1)+(2)", 4, "3 ");
+        checks.errs(desk, "eval((1)+(2)) eval(`(1)+(2')", 6, "3 ");
+        checks.errs(desk, "eval(1+2/1) eval(1+2/)", 6, "3 ");
+        checks.errs(desk, "eval(1/0)", 5, "");
+        checks.gives(desk, "eval(1/1)", "1");
+    }
+
+    private static void theLongestOnes(Checks checks) {
+        RescanDesk desk = new RescanDesk();
+        Checks.run(desk, "define(`n',`" + "1".repeat(100) + "')define(`m',`" + "1".repeat(99) + "+')");
+        checks.gives(desk, "eval(n`'n`'n`'n)", "" + new BigInteger("1".repeat(400)).longValue());
+        checks.errs(desk, "eval(n`'n`'n`'m)", 6, "");
+    }
+
     private static void errors(Checks checks) {
         String[] wrong = {"", " ", "+", "+1", "1+", "1 + * 2", "()", "(1", "1)", "a", "1a", "1==1",
-            "1<=2", "1&&1", "-", "1(2)", "(1)2", "1.", "!1", "*1", "2**3"};
+            "1<=2", "1&&1", "-", "1(2)", "(1)2", "1.", "!1", "*1", "2**3", "(1a", "(1(", "((1)", "1\t+1"};
         for (String expression : wrong) {
             checks.errs("x`'eval(`" + expression + "')y", 6, "x");
         }

@@ -29,6 +29,8 @@ public final class ReadingTest {
         checks.gives(desk, "_a9_ x_a9 1_a9 _a9.Z z ZZ", "_a9_ x_a9 1[0] [0].z z ZZ");
         checks.gives(desk, "_a9 (1)", "[0] (1)");
         checks.gives(desk, "Z`'Z Z`Z'", "zz zZ");
+        checks.gives(desk, "define(`azAZ_09',`y')azAZ_09@azAZ_09[azAZ_09{azAZ_09/azAZ_09:", "y@y[y{y/y:");
+        checks.gives(desk, "define(`z0',`y')z0 zz0 z00", "y zz0 z00");
     }
 
     private static void bracketsAndCommas(Checks checks) {

@@ -47,7 +47,8 @@ public final class SpaceTest {
         checks.same("a row that fits", Checks.run(desk, "divert(1)1234`'divert(0)two`'h`'12undivert(1)`"), 3);
         checks.same("count(0)", desk.count(0), 300);
         checks.same("count(1)", desk.count(1), 0);
-        checks.same("a row that does not", Checks.run(desk, "divert(1)1234`'divert(0)two`'h`'123undivert(1)5"), 2);
+        String tooMuch = "divert(1)1234`'divert(0)two`'h`'123undivert(1)5";
+        checks.same("a row that does not", Checks.run(desk, tooMuch), 2);
         checks.same("count(0)", desk.count(0), 297);
         checks.same("count(1)", desk.count(1), 4);
         checks.same("count(8)", desk.count(8), 1);
@@ -87,6 +88,8 @@ public final class SpaceTest {
         checks.same("count(6) after 601", desk.count(6), 3);
         checks.same("606", Checks.run(desk, "f(`" + X_100 + "x')ab"), 2);
         checks.same("count(8) after 606", desk.count(8), 2);
+        checks.same("606 at the end", Checks.run(desk, "f(`" + X_100 + "x')"), 2);
+        checks.same("row 0", Checks.row(desk, 0), "");
         Checks.run(desk, "define(`a',`$@$@$@$@$@$@$@$@$@$@$@$@$@$@')");
         checks.same("far above", Checks.run(desk, "a(`" + X_100 + "',`" + X_100 + "')abc"), 2);
         checks.same("count(8) far above", desk.count(8), 3);
