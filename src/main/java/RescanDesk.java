@@ -696,6 +696,10 @@ public final class RescanDesk {
         private final Rows rows;
         private final Table table;
         private final Expression expression;
+        /**
+         * Has room for one more than ever fits before the front, and takes of each part all that
+         * there is room for: so a text that was cut off is full, and the front refuses it.
+         */
         private final Text made;
 
         Expander(Front front, Rows rows, Table table) {
@@ -703,21 +707,20 @@ public final class RescanDesk {
             this.rows = rows;
             this.table = table;
             expression = new Expression();
-            // One more than ever fits: a text that was cut off here is refused by the front.
             made = new Text(FRONT_ROOM + 1);
         }
 
         int expand(Call call) {
             made.empty();
-            int error = FINE;
-            if (call.definition.builtIn == null) {
+            BuiltIn builtIn = call.definition.builtIn;
+            if (builtIn == null) {
                 makeBody(call);
             } else {
-                error = act(call, call.definition.builtIn);
-                makeText(call, call.definition.builtIn);
-            }
-            if (error != FINE) {
-                return error;
+                int error = act(call, builtIn);
+                if (error != FINE) {
+                    return error;
+                }
+                makeText(call, builtIn);
             }
             return front.putBefore(made) ? FINE : SPACE;
         }
@@ -738,7 +741,8 @@ public final class RescanDesk {
         /** False, with nothing made, if what is behind the $ has no meaning there. */
         private boolean makeParameter(Call call, char c) {
             if (c == '0') {
-                made.addWhole(call.definition.name);
+                Text name = call.definition.name;
+                made.addPart(name.chars, 0, name.length);
             } else if (isDigit(c)) {
                 makeArgument(call, c - '0');
             } else if (c == '#') {

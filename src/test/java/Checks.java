@@ -34,8 +34,10 @@ final class Checks {
     }
 
     static String row(RescanDesk desk, int r) {
+        // An object is promised for 512 calls only, so the row's length is asked once.
+        int length = desk.count(r);
         StringBuilder row = new StringBuilder();
-        for (int k = 0; k < desk.count(r); k++) {
+        for (int k = 0; k < length; k++) {
             row.append(desk.output(r, k));
         }
         return row.toString();
@@ -61,6 +63,19 @@ final class Checks {
     void errs(RescanDesk desk, String text, int error, String due) {
         same("run of " + text, run(desk, text), error);
         same("row 0 after " + text, row(desk, 0), due);
+    }
+
+    /** The run of the text ends so, and leaves so many characters of the front. */
+    void ends(RescanDesk desk, String text, int error, int left) {
+        same("run of " + text, run(desk, text), error);
+        same("count(8) after " + text, desk.count(8), left);
+    }
+
+    /** count answers so, for 0, 1, 2, .. on. */
+    void counts(RescanDesk desk, String when, int... due) {
+        for (int what = 0; what < due.length; what++) {
+            same("count(" + what + ") " + when, desk.count(what), due[what]);
+        }
     }
 
     /** 0 nothing, 1 IllegalArgumentException, 2 IndexOutOfBoundsException, 3 another one. */

@@ -5,6 +5,7 @@ public final class TypeTest {
         appendsInOrder(checks);
         everyCharacterIsTaken(checks);
         refusesTheCharacterBehind300(checks);
+        fullUntilItGoes(checks);
         leavesTheLatestRun(checks);
         checks.finish();
     }
@@ -29,8 +30,23 @@ public final class TypeTest {
         checks.same("type number 300", desk.type('!') ? 1 : 0, 0);
         checks.same("type number 300 again", desk.type('!') ? 1 : 0, 0);
         checks.same("run of 300 characters", desk.run(300), 0);
-        checks.same("row 0", Checks.row(desk, 0), ".".repeat(300));
+        checks.same("count(0)", desk.count(0), 300);
+        checks.same("the last character", desk.output(0, 299), '.');
         checks.same("type after the run", desk.type('.') ? 1 : 0, 1);
+    }
+
+    /** A text that is full is so for every character, and a run or clear makes room again. */
+    private static void fullUntilItGoes(Checks checks) {
+        RescanDesk desk = new RescanDesk();
+        Checks.type(desk, "x".repeat(299));
+        checks.same("type number 299", desk.type('\0') ? 1 : 0, 1);
+        for (char c : new char[] {0, ' ', '`', 'x', 65535}) {
+            checks.same("type of " + (int) c + " when full", desk.type(c) ? 1 : 0, 0);
+        }
+        checks.same("clear()", desk.clear(), 300);
+        Checks.type(desk, "1".repeat(150) + "`".repeat(51));
+        checks.same("a run that errs", desk.run(5000), 3);
+        checks.same("clear() after it", desk.clear(), 0);
     }
 
     private static void leavesTheLatestRun(Checks checks) {
