@@ -10,6 +10,13 @@ public final class ExpressionTest {
         errors(checks);
         oneBehindTheOther(checks);
         theLongestOnes(checks);
+        theFewestSigns(checks);
+        insideOf6Others(checks);
+        fromTheLeftOn(checks);
+        bothSidesAreReckoned(checks);
+        towards0(checks);
+        anExpressionFirst(checks);
+        nothingIsPut(checks);
         checks.finish();
     }
 
@@ -108,5 +115,120 @@ public final class ExpressionTest {
         checks.errs("eval(1/0 1/0a)", 6, "");
         checks.same("count(8) after ZERO", checks.errs("a eval(1/0)bc", 5, "a ").count(8), 2);
         checks.same("count(6) after ZERO", checks.errs("a eval(1/0)bc", 5, "a ").count(6), 7);
+    }
+
+    /** "EXPRESSION: a text that is none (also the empty one)" */
+    private static void theFewestSigns(Checks checks) {
+        for (char c : "0123456789".toCharArray()) {
+            is(checks, "" + c, "" + c);
+        }
+        // Each sign alone, and the neighbours of the digits, are none.
+        for (char c : "+-*/%<>=&|()/:,.!a_$\0\u0661".toCharArray()) {
+            checks.errs("eval(`" + c + "')", 6, "");
+            checks.errs("eval(`1" + c + "')", 6, "");
+        }
+        for (char c : "+*/%<>=&|)".toCharArray()) {
+            checks.errs("eval(`" + c + "1')", 6, "");
+            checks.errs("eval(`(" + c + "1)')", 6, "");
+            checks.errs("eval(`1" + c + c + "1')", 6, "");
+        }
+        for (String blank : new String[] {"eval", "eval()", "eval( )", "eval(`')", "eval(` \n')", "eval(,1)"}) {
+            checks.errs(blank, 6, "");
+        }
+    }
+
+    /** "or with brackets or a - inside of 6 others." */
+    private static void insideOf6Others(Checks checks) {
+        // Every mixture of 5, 6 and 7 brackets and -, a bit of the number for each of them.
+        for (int many = 5; many <= 7; many++) {
+            for (int mixture = 0; mixture < 1 << many; mixture++) {
+                String inside = nested(many, mixture);
+                RescanDesk desk = new RescanDesk();
+                String due = many > 6 ? "" : Integer.bitCount(mixture) % 2 == 0 ? "2" : "-2";
+                checks.errs(desk, "eval(`" + inside + "')", many > 6 ? 6 : 0, due);
+            }
+        }
+        is(checks, "((((((1))))))*------2", "2");
+        is(checks, "((((((1-1-1-1))))))", "-2");
+        is(checks, "------1-1-1", "-1");
+        checks.errs("eval(`(((((1-(-1))))))')", 6, "");
+        is(checks, "(((((1-(1))))))", "0");
+    }
+
+    private static String nested(int many, int mixture) {
+        StringBuilder before = new StringBuilder();
+        StringBuilder behind = new StringBuilder();
+        for (int i = 0; i < many; i++) {
+            boolean minus = (mixture >> i & 1) == 1;
+            before.append(minus ? '-' : '(');
+            behind.append(minus ? "" : ")");
+        }
+        return before + "2" + behind;
+    }
+
+    /** "those of one strength from the left on" */
+    private static void fromTheLeftOn(Checks checks) {
+        is(checks, "9-3+2", "8");
+        is(checks, "9-3-2", "4");
+        is(checks, "8/4*2", "4");
+        is(checks, "8*3%5", "4");
+        is(checks, "9%5*3", "12");
+        is(checks, "2<1<1", "1");
+        is(checks, "2=2=2", "0");
+        is(checks, "5>4=1", "1");
+        is(checks, "0=1<1", "1");
+        is(checks, "1|1&0", "0");
+        is(checks, "0&1|1", "1");
+        is(checks, "1+2<3&1", "0");
+        is(checks, "1<2+3", "1");
+        is(checks, "1&2=2", "1");
+        is(checks, "-2*-3", "6");
+        is(checks, "-2+3", "1");
+        is(checks, "-(2+3)", "-5");
+    }
+
+    /** "(not 0: 1 or 0, of both or of one; both sides are reckoned)" */
+    private static void bothSidesAreReckoned(Checks checks) {
+        is(checks, "-1&7", "1");
+        is(checks, "7&0", "0");
+        is(checks, "0&7", "0");
+        is(checks, "0|-7", "1");
+        is(checks, "-7|0", "1");
+        is(checks, "0|0", "0");
+        is(checks, "4294967296&4294967296", "1");
+        checks.errs("eval(0&1/0)", 5, "");
+        checks.errs("eval(1|1%0)", 5, "");
+    }
+
+    /** "a division (/ %, towards 0)" */
+    private static void towards0(Checks checks) {
+        is(checks, "7/2", "3");
+        is(checks, "-7/2", "-3");
+        is(checks, "7/-2", "-3");
+        is(checks, "-7/-2", "3");
+        is(checks, "7%2", "1");
+        is(checks, "-7%2", "-1");
+        is(checks, "7%-2", "1");
+        is(checks, "-7%-2", "-1");
+        is(checks, "0/5", "0");
+        is(checks, "1/2", "0");
+        is(checks, "-1/2", "0");
+    }
+
+    /** "ZERO: it is one, and a division is by 0." */
+    private static void anExpressionFirst(Checks checks) {
+        String[] none = {"1/0)", "(1/0", "1/0+", "1/0a", "1%0/", "1/0 1/", "1/0+((((((-1))))))", "1/0()"};
+        for (String expression : none) {
+            checks.errs("eval(`" + expression + "')", 6, "");
+        }
+        String[] byZero = {"0/0", "0%0", "1/(0)", "1/-0", "1/18446744073709551616", "1/0*0", "2%(1-1)"};
+        for (String expression : byZero) {
+            checks.errs("eval(`" + expression + "')", 5, "");
+        }
+    }
+
+    private static void nothingIsPut(Checks checks) {
+        checks.ends(new RescanDesk(), "eval(1/0)!", 5, 1);
+        checks.ends(new RescanDesk(), "eval(1/)!", 6, 1);
     }
 }

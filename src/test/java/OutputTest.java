@@ -23,7 +23,32 @@ public final class OutputTest {
         checks.same("output(0, 0) of the next run", desk.output(0, 0), 'x');
         checks.same("output(0, 1) throws", Checks.thrownByOutput(desk, 0, 1), 2);
         checks.same("output(3, 0) throws", Checks.thrownByOutput(desk, 3, 0), 2);
+        aFullRow(checks);
+        asTheLatestRunLeftIt(checks);
         checks.finish();
+    }
+
+    private static void aFullRow(Checks checks) {
+        RescanDesk desk = new RescanDesk();
+        Checks.run(desk, "define(`h',``" + ".".repeat(98) + "'')");
+        checks.same("run", Checks.run(desk, "divert(3)1h`'h`'h`'23456`"), 3);
+        checks.same("output(3, 0)", desk.output(3, 0), '1');
+        checks.same("output(3, 299)", desk.output(3, 299), '6');
+        checks.same("output(3, 300) throws", Checks.thrownByOutput(desk, 3, 300), 2);
+        checks.same("output(0, 0) throws", Checks.thrownByOutput(desk, 0, 0), 2);
+    }
+
+    /** Also the rows that were emptied: what was in them is not to be seen. */
+    private static void asTheLatestRunLeftIt(Checks checks) {
+        RescanDesk desk = new RescanDesk();
+        checks.gives(desk, "a`'divert(1)b", "ab");
+        checks.same("output(1, 0) throws", Checks.thrownByOutput(desk, 1, 0), 2);
+        Checks.type(desk, "xyz");
+        checks.same("output(0, 1) after type", desk.output(0, 1), 'b');
+        desk.clear();
+        checks.same("output(0, 1) after clear", desk.output(0, 1), 'b');
+        checks.same("an empty run", desk.run(0), 0);
+        checks.same("output(0, 0) throws", Checks.thrownByOutput(desk, 0, 0), 2);
     }
 
     private static void indexes(Checks checks, RescanDesk desk, int r, int length) {
