@@ -25,6 +25,8 @@ public final class BuiltInBoundsTest {
         valuesOfTexts(checks);
         valuesGoRound(checks);
         valuesWithoutNeedless0(checks);
+        moreArgumentsThanAreAskedFor(checks);
+        insideOfAnArgument(checks);
         checks.finish();
     }
 
@@ -242,5 +244,31 @@ public final class BuiltInBoundsTest {
         checks.gives("eval(000) eval(-0) eval(010) eval(0-10) eval(10*10)", "0 0 10 -10 100");
         checks.gives("incr(999999999999999999)", "1000000000000000000");
         checks.gives("eval(0-9223372036854775807-1)", "-9223372036854775808");
+    }
+
+    private static void moreArgumentsThanAreAskedFor(Checks checks) {
+        checks.gives("define(`f',1,2)f pushdef(`f',3,4)f popdef(`f',`f')f undefine(`f',`len')f len", "1 3 1 f 0");
+        checks.gives("ifdef(`len',y,n,z) ifdef(`nix',y,n,z) ifdef(`nix',`nix',n,z)", "y n n");
+        checks.gives("ifelse(1,1,y,n,z) ifelse(1,2,a,b,c,d,e)", "y e");
+        checks.gives("incr(1,5) eval(1,/) len(a,bc) substr(abc,1,1,5) index(abc,b,c)", "2 1 1 b 1");
+        checks.gives("divert(1,2)divnum(5,6)divert(0,1)undivert(2,1).undivert(1,2)", ".1");
+        checks.gives("dnl(a,b)c\nd", "d");
+    }
+
+    /** The arguments of the call around, and that its gathering goes on, are of no matter. */
+    private static void insideOfAnArgument(Checks checks) {
+        RescanDesk desk = new RescanDesk();
+        Checks.run(desk, "define(`i',``$1'|`$2'')");
+        checks.gives(desk, "i(12,3define(`f',`$1$1')f(4)5)", "12|3445");
+        checks.gives(desk, "i(12,3pushdef(`f',`<$2>')f(4,5)6)", "12|3<5>6");
+        checks.gives(desk, "i(12,3popdef(`f')f(4)5)", "12|3445");
+        checks.gives(desk, "i(12,3undefine(`f')`'f(4)5)", "12|3f(4)5");
+        checks.gives(desk, "i(12,3ifdef(`len',4,5)ifdef(`12',6,7)8)", "12|3478");
+        checks.gives(desk, "i(12,3ifelse(12,3,4,5)ifelse(6,6,7)8)", "12|3578");
+        checks.gives(desk, "i(12,incr(3)eval(4+5)len(678))", "12|493");
+        checks.gives(desk, "i(12,3substr(4567,1,2)index(89,9))", "12|3561");
+        checks.gives(desk, "i(12,3shift(4,5)6)", "12|356");
+        checks.gives(desk, "i(12,3divnum`'dnl(4)5\n6)", "12|306");
+        checks.gives(desk, "i(12,3divert(1)4)5divert(0)i(6,7undivert(1)8)", "12|3456|78");
     }
 }
