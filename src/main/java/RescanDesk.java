@@ -297,9 +297,8 @@ public final class RescanDesk {
             return end - start <= fitting;
         }
 
-        /** Adds the other text if there is room for all of it; otherwise nothing, and false. */
-        boolean addWhole(Text other) {
-            return other.length <= chars.length - length && addPart(other.chars, 0, other.length);
+        boolean hasRoomFor(Text other) {
+            return other.length <= chars.length - length;
         }
 
         void set(char[] from, int start, int end) {
@@ -418,15 +417,19 @@ public final class RescanDesk {
             present = number >= 0 && number < ROWS ? (int) number : NONE;
         }
 
-        /** Moves a row behind another one, or away if that is NONE; false if it does not fit. */
+        /** Moves a row behind another one, or away if that is NONE; nothing if it does not fit. */
         boolean pour(int from, int into) {
             if (from == into) {
                 return true;
             }
-            if (into != NONE && !row[into].addWhole(row[from])) {
-                return false;
+            Text poured = row[from];
+            if (into != NONE) {
+                if (!row[into].hasRoomFor(poured)) {
+                    return false;
+                }
+                row[into].addPart(poured.chars, 0, poured.length);
             }
-            row[from].empty();
+            poured.empty();
             return true;
         }
 
